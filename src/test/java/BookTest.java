@@ -198,6 +198,8 @@ public final class BookTest {
         faulty("person p size 1 honour 1 does p", 2, 30);
         faulty("work a;person p size 1 honour 1 does a,b", 2, 39);
         faulty("work a,b;person p size 1 honour 1 does a,b,a", 3, 43);
+        faultyLast("work a,b,c,d,e;person p size 1 honour 1 does a,b,c,d,e,a", 1, 3);
+        faultyLast("work a,b,c,d,e;person p size 1 honour 1 does a,b,c,d,e,f", 1, 2);
         faultyLast(SMALL + "promise x", 1, 2);
         faultyLast(SMALL + "promise p", 1, 2);
         faultyLast(SMALL + "promise a", 1, 2);

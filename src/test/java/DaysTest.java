@@ -29,6 +29,7 @@ public final class DaysTest {
         credit();
         debtAndGain();
         breaking();
+        fullRooms();
         Check.end();
     }
 
@@ -155,6 +156,33 @@ public final class DaysTest {
         Check.refused(x, "gain(0, 6)", x.gain(0, 6), -10000, 2);
         LentMasks none = new LentMasks();
         Check.refused(none, "guild without a book", none.guild(), -1, 1);
+    }
+
+    private static void fullRooms() {
+        StringBuilder text = new StringBuilder("town days 12;work w");
+        for (char c = 'a'; c <= 'f'; c++) {
+            text.append(";mask ").append(c).append(" plain size 1 credit 50");
+            text.append(";person ").append((char) (c + 10)).append(" size 1 honour 0 does w");
+        }
+        for (int day = 1; day <= 12; day++) {
+            text.append(";promise f w on ").append(day).append(" worth 2 fine 3 effort 1");
+        }
+        LentMasks x = Town.of(text.toString());
+        Check.given(x, "twelve promises of the guild", x.guild(), 36);
+        Check.given(x, "credit", x.credit(5, 12), 50 - 36);
+        Check.done(x, "the last person in the last mask", x.lend(5, 5, 2, 12));
+        Check.given(x, "done(11)", x.done(11), 1);
+        Check.given(x, "gain", x.gain(5, 12), 11);
+        Check.given(x, "credit", x.credit(5, 12), 50 - 3 + 22);
+        Check.done(x, "it breaks", x.breaking(5, 12, true));
+        Check.given(x, "debt", x.debt(5, 12), 3);
+        Check.given(x, "guild", x.guild(), 3);
+        Check.given(x, "terms", x.terms(), 1);
+        Check.given(x, "value", x.value(12), 2);
+        Check.given(x, "worth", x.worth(), 24);
+        Check.given(x, "needed", x.needed(12, 5), 0);
+        Check.given(x, "ask", x.ask(5, 5, 1, 12), 36);
+        Check.given(x, "real", x.real(12), -3);
     }
 
     private static void breaking() {

@@ -114,6 +114,10 @@ public final class PlansTest {
         Check.given(x, "ask(0, 1, 2, 4)", x.ask(0, 1, 2, 4), 7);
         Check.given(x, "ask(0, 1, 3, 3)", x.ask(0, 1, 3, 3), 0);
         Check.given(x, "30 times 30 by 100", x.ask(2, 0, 1, 4), 9);
+        LentMasks dear = Town.of(TIES + ";promise m w on 1 worth 0 fine 99 effort 0;promise m v on 3 worth 0 fine 99 effort 0"
+                + ";promise m v on 2 worth 0 fine 1 effort 0");
+        Check.given(dear, "all of the fines, without honour", dear.ask(0, 1, 1, 3), 199);
+        Check.given(dear, "of the days alone", dear.ask(0, 1, 2, 3), 100);
         Check.refused(x, "ask(3, 0, 1, 1)", x.ask(3, 0, 1, 1), -1, 1);
         Check.refused(x, "ask(0, 3, 0, 1)", x.ask(0, 3, 0, 1), -1, 1);
         Check.refused(x, "ask(1, 0, 0, 1)", x.ask(1, 0, 0, 1), -1, 2);

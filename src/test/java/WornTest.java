@@ -83,6 +83,13 @@ public final class WornTest {
         Check.given(x, "its mask", x.may(1, 2), 1);
         Check.given(x, "what doesn't agree", x.untrue(2), 32);
         Check.given(x, "all of a day", x.untrue(3), 128);
+        StringBuilder eight = new StringBuilder(MASKS + PERSONS);
+        for (int i = 0; i < 8; i++) {
+            eight.append(";seen m on 1 hour 1 size 9");
+        }
+        LentMasks all = Town.of(eight.toString());
+        Check.given(all, "all eight", all.untrue(1), 255);
+        Check.given(all, "and one wearers without them", all.wearers(1), 1);
         LentMasks two = Town.of(MASKS + PERSONS + ";seen m on 1 hour 1 size 4;seen m on 1 hour 2 size 4 habit 2"
                 + ";seen m on 1 hour 3 size 2;seen m on 1 hour 4 size 5");
         Check.given(two, "the fewest, and of these the least bits", two.untrue(1), 2 + 4);

@@ -44,14 +44,16 @@ final class Texts {
             }
             lines.add(line);
         }
-        int more = r.nextInt(16);
+        // Some towns have all that there is room for, of one sort at least.
+        boolean full = r.nextInt(3) == 0;
+        int more = full ? 30 : r.nextInt(16);
         int sort = r.nextInt(9);
         for (int i = 0; i < more; i++) {
             String mask = "m" + (char) ('a' + r.nextInt(masks));
             String other = "m" + (char) ('a' + r.nextInt(masks));
             String person = "p" + (char) ('a' + r.nextInt(persons));
             String day = some(r, 1, days);
-            switch (r.nextInt(3) == 0 ? sort : r.nextInt(9)) {
+            switch (r.nextInt(3) == 0 || full && i > 4 ? sort : r.nextInt(9)) {
                 case 0, 1 -> {
                     if (works > 0) {
                         lines.add("promise " + mask + " " + (char) ('a' + r.nextInt(works)) + " on " + day + " worth "
