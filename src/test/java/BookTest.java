@@ -258,6 +258,9 @@ public final class BookTest {
         faulty("work a,b,c,d,e,a", 3, 15);
         faultyLast(repeated("mask # plain size 1 credit 1;", 6) + "mask", 4, 5);
         faultyLast(repeated("person # size 1 honour 1;", 6) + "person", 6, 5);
+        String names = repeated("mask # plain size 1 credit 1;", 6) + repeated("person p# size 1 honour 1;", 6);
+        faultyLast(names + "work a,b,c,d,e,f", 1, 5);
+        faultyLast(names + "work a,b,c,d,e,px", 2, 3);
         faultyLast(SMALL + repeated("promise m a on 1 worth 1 fine 1 effort 1;", 12) + "promise", 7, 5);
         faultyLast(SMALL.replace("2;w", "20;w")
                 + repeated("lent m to p from % until %;", 9)
