@@ -117,131 +117,115 @@ public final class BookTest {
         Check.same("fault stays", x.fault(), 4);
     }
 
-    private static void faulty(String text, int fault, int place) {
-        LentMasks x = new LentMasks();
-        Check.refused(x, text, Town.book(x, text), -1, 4);
-        Check.same(text + ": fault", x.fault(), fault);
-        Check.same(text + ": where", x.where(), place);
-    }
-
-    private static void faultyEnd(String text, int fault) {
-        faulty(text, fault, text.length());
-    }
-
-    /** The fault is at the last token of the text, which has this many bytes. */
-    private static void faultyLast(String text, int length, int fault) {
-        faulty(text, fault, text.length() - length);
-    }
-
     private static void forms() {
-        faulty("", 1, 0);
-        faultyEnd("   ", 1);
-        faultyEnd("town", 1);
-        faultyEnd("town days", 1);
-        faultyEnd("town days 3 ; ", 1);
-        faulty(";town days 3", 1, 0);
-        faulty("town,days 3", 1, 4);
-        faulty("town days x", 1, 10);
-        faulty("town days 3 4", 1, 12);
-        faulty("town days 3;;", 1, 12);
-        faulty("Town days 3", 1, 0);
-        faulty("town days 3.", 1, 11);
-        faulty("town days 0003", 1, 10);
-        faulty("town\tdays 3", 1, 4);
-        faulty("town days " + (char) 200, 1, 10);
-        faulty("work abcdefghi", 1, 5);
-        faulty("work 3", 1, 5);
-        faultyEnd("work a,", 1);
-        faulty("work a b", 1, 7);
-        faulty("mask m odd size 1", 1, 7);
-        faulty("mask m plain credit 1", 1, 13);
-        faulty("mask m plain size x", 1, 18);
-        faulty("mask m plain size 1 honour", 1, 20);
-        faulty("person p honour", 1, 9);
-        faulty("person p size 1 credit", 1, 16);
-        faulty("person p size 1 honour 1 habit 2 child", 1, 33);
-        faulty("work a;person p size 1 honour 1 does a habit 1", 1, 39);
-        faulty("work a;person p size 1 honour 1 does a a", 1, 39);
-        faultyEnd("person p size 1 honour 1 does", 1);
-        faultyEnd("person p size 1 honour 1 habit", 1);
-        faultyLast(SMALL + "promise m a at", 2, 1);
-        faultyLast(SMALL + "promise m a on 1 fine", 4, 1);
-        faultyLast(SMALL + "promise m a on 1 worth 1 effort", 6, 1);
-        faultyLast(SMALL + "promise m a on 1 worth 1 fine 1 worth", 5, 1);
-        faultyLast(SMALL + "promise 1", 1, 1);
-        faultyLast(SMALL + "lent m from", 4, 1);
-        faultyLast(SMALL + "lent m to p on", 2, 1);
-        faultyLast(SMALL + "lent m to p from 1 to", 2, 1);
-        faultyLast(SMALL + "seen m on 1 size", 4, 1);
-        faultyLast(SMALL + "seen m on 1 hour 1 hour", 4, 1);
-        faultyLast(SMALL + "seen m on 1 hour 1 size 1 child", 5, 1);
-        faultyLast(SMALL + "letter m on", 2, 1);
-        faultyLast(SMALL + "break p from", 4, 1);
-        faultyLast(SMALL + "give", 4, 1);
+        Reading.faulty("", 1, 0);
+        Reading.faultyEnd("   ", 1);
+        Reading.faultyEnd("town", 1);
+        Reading.faultyEnd("town days", 1);
+        Reading.faultyEnd("town days 3 ; ", 1);
+        Reading.faulty(";town days 3", 1, 0);
+        Reading.faulty("town,days 3", 1, 4);
+        Reading.faulty("town days x", 1, 10);
+        Reading.faulty("town days 3 4", 1, 12);
+        Reading.faulty("town days 3;;", 1, 12);
+        Reading.faulty("Town days 3", 1, 0);
+        Reading.faulty("town days 3.", 1, 11);
+        Reading.faulty("town days 0003", 1, 10);
+        Reading.faulty("town\tdays 3", 1, 4);
+        Reading.faulty("town days " + (char) 200, 1, 10);
+        Reading.faulty("work abcdefghi", 1, 5);
+        Reading.faulty("work 3", 1, 5);
+        Reading.faultyEnd("work a,", 1);
+        Reading.faulty("work a b", 1, 7);
+        Reading.faulty("mask m odd size 1", 1, 7);
+        Reading.faulty("mask m plain credit 1", 1, 13);
+        Reading.faulty("mask m plain size x", 1, 18);
+        Reading.faulty("mask m plain size 1 honour", 1, 20);
+        Reading.faulty("person p honour", 1, 9);
+        Reading.faulty("person p size 1 credit", 1, 16);
+        Reading.faulty("person p size 1 honour 1 habit 2 child", 1, 33);
+        Reading.faulty("work a;person p size 1 honour 1 does a habit 1", 1, 39);
+        Reading.faulty("work a;person p size 1 honour 1 does a a", 1, 39);
+        Reading.faultyEnd("person p size 1 honour 1 does", 1);
+        Reading.faultyEnd("person p size 1 honour 1 habit", 1);
+        Reading.faultyLast(SMALL + "promise m a at", 2, 1);
+        Reading.faultyLast(SMALL + "promise m a on 1 fine", 4, 1);
+        Reading.faultyLast(SMALL + "promise m a on 1 worth 1 effort", 6, 1);
+        Reading.faultyLast(SMALL + "promise m a on 1 worth 1 fine 1 worth", 5, 1);
+        Reading.faultyLast(SMALL + "promise 1", 1, 1);
+        Reading.faultyLast(SMALL + "lent m from", 4, 1);
+        Reading.faultyLast(SMALL + "lent m to p on", 2, 1);
+        Reading.faultyLast(SMALL + "lent m to p from 1 to", 2, 1);
+        Reading.faultyLast(SMALL + "seen m on 1 size", 4, 1);
+        Reading.faultyLast(SMALL + "seen m on 1 hour 1 hour", 4, 1);
+        Reading.faultyLast(SMALL + "seen m on 1 hour 1 size 1 child", 5, 1);
+        Reading.faultyLast(SMALL + "letter m on", 2, 1);
+        Reading.faultyLast(SMALL + "break p from", 4, 1);
+        Reading.faultyLast(SMALL + "give", 4, 1);
         for (String word : new String[] {"town", "work", "mask", "person", "promise", "lent", "seen", "letter", "break",
             "child", "habit", "does", "size"}) {
-            faulty("work " + word, 1, 5);
-            faulty("mask " + word, 1, 5);
-            faulty("person " + word, 1, 7);
-            faultyLast(SMALL + "promise " + word, word.length(), 1);
+            Reading.faulty("work " + word, 1, 5);
+            Reading.faulty("mask " + word, 1, 5);
+            Reading.faulty("person " + word, 1, 7);
+            Reading.faultyLast(SMALL + "promise " + word, word.length(), 1);
         }
     }
 
     private static void names() {
-        faulty("work a,a", 3, 7);
-        faulty("work a;work a", 3, 12);
-        faulty("work a;mask a", 3, 12);
-        faulty("mask m plain size 1 credit 1;person m", 3, 36);
-        faulty("person p size 1 honour 1;work p", 3, 30);
-        faulty("person p size 1 honour 1;person p", 3, 32);
-        faulty("town days 1;town days 2", 3, 12);
-        faulty("person p size 1 honour 1 does p", 2, 30);
-        faulty("work a;person p size 1 honour 1 does a,b", 2, 39);
-        faulty("work a,b;person p size 1 honour 1 does a,b,a", 3, 43);
-        faultyLast("work a,b,c,d,e;person p size 1 honour 1 does a,b,c,d,e,a", 1, 3);
-        faultyLast("work a,b,c,d,e;person p size 1 honour 1 does a,b,c,d,e,f", 1, 2);
-        faultyLast(SMALL + "promise x", 1, 2);
-        faultyLast(SMALL + "promise p", 1, 2);
-        faultyLast(SMALL + "promise a", 1, 2);
-        faultyLast(SMALL + "promise m m", 1, 2);
-        faultyLast(SMALL + "promise m b", 1, 2);
-        faultyLast(SMALL + "lent p", 1, 2);
-        faultyLast(SMALL + "lent m to m", 1, 2);
-        faultyLast(SMALL + "seen p", 1, 2);
-        faultyLast(SMALL + "letter p", 1, 2);
-        faultyLast(SMALL + "letter m to p", 1, 2);
-        faultyLast(SMALL + "letter m to m", 1, 3);
-        faultyLast(SMALL + "break m", 1, 2);
-        faultyLast(SMALL + "break p on 1;break p on 2;break p on 1", 1, 3);
+        Reading.faulty("work a,a", 3, 7);
+        Reading.faulty("work a;work a", 3, 12);
+        Reading.faulty("work a;mask a", 3, 12);
+        Reading.faulty("mask m plain size 1 credit 1;person m", 3, 36);
+        Reading.faulty("person p size 1 honour 1;work p", 3, 30);
+        Reading.faulty("person p size 1 honour 1;person p", 3, 32);
+        Reading.faulty("town days 1;town days 2", 3, 12);
+        Reading.faulty("person p size 1 honour 1 does p", 2, 30);
+        Reading.faulty("work a;person p size 1 honour 1 does a,b", 2, 39);
+        Reading.faulty("work a,b;person p size 1 honour 1 does a,b,a", 3, 43);
+        Reading.faultyLast("work a,b,c,d,e;person p size 1 honour 1 does a,b,c,d,e,a", 1, 3);
+        Reading.faultyLast("work a,b,c,d,e;person p size 1 honour 1 does a,b,c,d,e,f", 1, 2);
+        Reading.faultyLast(SMALL + "promise x", 1, 2);
+        Reading.faultyLast(SMALL + "promise p", 1, 2);
+        Reading.faultyLast(SMALL + "promise a", 1, 2);
+        Reading.faultyLast(SMALL + "promise m m", 1, 2);
+        Reading.faultyLast(SMALL + "promise m b", 1, 2);
+        Reading.faultyLast(SMALL + "lent p", 1, 2);
+        Reading.faultyLast(SMALL + "lent m to m", 1, 2);
+        Reading.faultyLast(SMALL + "seen p", 1, 2);
+        Reading.faultyLast(SMALL + "letter p", 1, 2);
+        Reading.faultyLast(SMALL + "letter m to p", 1, 2);
+        Reading.faultyLast(SMALL + "letter m to m", 1, 3);
+        Reading.faultyLast(SMALL + "break m", 1, 2);
+        Reading.faultyLast(SMALL + "break p on 1;break p on 2;break p on 1", 1, 3);
     }
 
     private static void bounds() {
-        faulty("town days 0", 4, 10);
-        faulty("town days 21", 4, 10);
-        faulty("mask m plain size 0", 4, 18);
-        faulty("mask m plain size 10", 4, 18);
-        faulty("mask m plain size 1 credit 100", 4, 27);
-        faulty("person p size 0", 4, 14);
-        faulty("person p size 10", 4, 14);
-        faulty("person p size 1 honour 100", 4, 23);
-        faulty("person p size 1 honour 1 habit 0", 4, 31);
-        faulty("person p size 1 honour 1 child habit 5", 4, 37);
-        faultyLast(SMALL + "promise m a on 0", 1, 4);
-        faultyLast(SMALL + "promise m a on 3", 1, 4);
-        faultyLast(SMALL + "promise m a on 1 worth 100", 3, 4);
-        faultyLast(SMALL + "promise m a on 1 worth 1 fine 100", 3, 4);
-        faultyLast(SMALL + "promise m a on 1 worth 1 fine 1 effort 100", 3, 4);
-        faultyLast(SMALL + "lent m to p from 0", 1, 4);
-        faultyLast(SMALL + "lent m to p from 3", 1, 4);
-        faultyLast(SMALL + "lent m to p from 1 until 3", 1, 4);
-        faultyLast(SMALL + "lent m to p from 2 until 1", 1, 4);
-        faultyLast(SMALL + "seen m on 3", 1, 4);
-        faultyLast(SMALL + "seen m on 1 hour 24", 2, 4);
-        faultyLast(SMALL + "seen m on 1 hour 0 size 0", 1, 4);
-        faultyLast(SMALL + "seen m on 1 hour 0 size 10", 2, 4);
-        faultyLast(SMALL + "seen m on 1 hour 0 size 1 habit 5", 1, 4);
-        faultyLast(LENT + "letter m to n on 3", 1, 4);
-        faultyLast(SMALL + "break p on 3", 1, 4);
+        Reading.faulty("town days 0", 4, 10);
+        Reading.faulty("town days 21", 4, 10);
+        Reading.faulty("mask m plain size 0", 4, 18);
+        Reading.faulty("mask m plain size 10", 4, 18);
+        Reading.faulty("mask m plain size 1 credit 100", 4, 27);
+        Reading.faulty("person p size 0", 4, 14);
+        Reading.faulty("person p size 10", 4, 14);
+        Reading.faulty("person p size 1 honour 100", 4, 23);
+        Reading.faulty("person p size 1 honour 1 habit 0", 4, 31);
+        Reading.faulty("person p size 1 honour 1 child habit 5", 4, 37);
+        Reading.faultyLast(SMALL + "promise m a on 0", 1, 4);
+        Reading.faultyLast(SMALL + "promise m a on 3", 1, 4);
+        Reading.faultyLast(SMALL + "promise m a on 1 worth 100", 3, 4);
+        Reading.faultyLast(SMALL + "promise m a on 1 worth 1 fine 100", 3, 4);
+        Reading.faultyLast(SMALL + "promise m a on 1 worth 1 fine 1 effort 100", 3, 4);
+        Reading.faultyLast(SMALL + "lent m to p from 0", 1, 4);
+        Reading.faultyLast(SMALL + "lent m to p from 3", 1, 4);
+        Reading.faultyLast(SMALL + "lent m to p from 1 until 3", 1, 4);
+        Reading.faultyLast(SMALL + "lent m to p from 2 until 1", 1, 4);
+        Reading.faultyLast(SMALL + "seen m on 3", 1, 4);
+        Reading.faultyLast(SMALL + "seen m on 1 hour 24", 2, 4);
+        Reading.faultyLast(SMALL + "seen m on 1 hour 0 size 0", 1, 4);
+        Reading.faultyLast(SMALL + "seen m on 1 hour 0 size 10", 2, 4);
+        Reading.faultyLast(SMALL + "seen m on 1 hour 0 size 1 habit 5", 1, 4);
+        Reading.faultyLast(LENT + "letter m to n on 3", 1, 4);
+        Reading.faultyLast(SMALL + "break p on 3", 1, 4);
     }
 
     private static String repeated(String line, int times) {
@@ -253,62 +237,56 @@ public final class BookTest {
     }
 
     private static void many() {
-        faulty("work a,b,c,d,e,f", 5, 15);
-        faulty("work a,b,c,d,e;work f", 5, 20);
-        faulty("work a,b,c,d,e,a", 3, 15);
-        faultyLast(repeated("mask # plain size 1 credit 1;", 6) + "mask", 4, 5);
-        faultyLast(repeated("person # size 1 honour 1;", 6) + "person", 6, 5);
+        Reading.faulty("work a,b,c,d,e,f", 5, 15);
+        Reading.faulty("work a,b,c,d,e;work f", 5, 20);
+        Reading.faulty("work a,b,c,d,e,a", 3, 15);
+        Reading.faultyLast(repeated("mask # plain size 1 credit 1;", 6) + "mask", 4, 5);
+        Reading.faultyLast(repeated("person # size 1 honour 1;", 6) + "person", 6, 5);
         String names = repeated("mask # plain size 1 credit 1;", 6) + repeated("person p# size 1 honour 1;", 6);
-        faultyLast(names + "work a,b,c,d,e,f", 1, 5);
-        faultyLast(names + "work a,b,c,d,e,px", 2, 3);
-        faultyLast(SMALL + repeated("promise m a on 1 worth 1 fine 1 effort 1;", 12) + "promise", 7, 5);
-        faultyLast(SMALL.replace("2;w", "20;w")
+        Reading.faultyLast(names + "work a,b,c,d,e,f", 1, 5);
+        Reading.faultyLast(names + "work a,b,c,d,e,px", 2, 3);
+        Reading.faultyLast(SMALL + repeated("promise m a on 1 worth 1 fine 1 effort 1;", 12) + "promise", 7, 5);
+        Reading.faultyLast(SMALL.replace("2;w", "20;w")
                 + repeated("lent m to p from % until %;", 9)
                 + "lent m to p from 10 until 10;lent m to p from 11 until 11;lent m to p from 12 until 12;lent", 4, 5);
-        faultyLast(SMALL + repeated("seen m on 1 hour 1 size 1;", 8) + "seen", 4, 5);
-        faultyLast(LENT + repeated("letter m to n on 1;", 8) + "letter", 6, 5);
-        faultyLast(SMALL.replace("2;w", "20;w") + repeated("break p on %;", 8) + "break", 5, 5);
+        Reading.faultyLast(SMALL + repeated("seen m on 1 hour 1 size 1;", 8) + "seen", 4, 5);
+        Reading.faultyLast(LENT + repeated("letter m to n on 1;", 8) + "letter", 6, 5);
+        Reading.faultyLast(SMALL.replace("2;w", "20;w") + repeated("break p on %;", 8) + "break", 5, 5);
     }
 
     private static void lacks() {
         for (String word : new String[] {"promise", "lent", "seen", "letter", "break"}) {
-            faulty("work a;" + word + " m", 6, 7);
+            Reading.faulty("work a;" + word + " m", 6, 7);
         }
-        faultyEnd("town days 1", 6);
-        faultyEnd("town days 1;mask m plain size 1 credit 1", 6);
-        faultyEnd("town days 1;person p size 1 honour 1", 6);
-        faultyEnd("mask m plain size 1 credit 1;person p size 1 honour 1", 6);
-        faultyEnd("mask m plain size 1 credit 1;person p size 1 honour 1  ", 6);
-        faultyEnd("work a", 6);
+        Reading.faultyEnd("town days 1", 6);
+        Reading.faultyEnd("town days 1;mask m plain size 1 credit 1", 6);
+        Reading.faultyEnd("town days 1;person p size 1 honour 1", 6);
+        Reading.faultyEnd("mask m plain size 1 credit 1;person p size 1 honour 1", 6);
+        Reading.faultyEnd("mask m plain size 1 credit 1;person p size 1 honour 1  ", 6);
+        Reading.faultyEnd("work a", 6);
     }
 
     private static void lendings() {
-        faultyLast(LENT + "lent m to q from 1 until 1", 1, 7);
-        faultyLast(LENT + "lent m to p from 1 until 1;lent m to p from 1 until 2", 1, 7);
-        faultyLast(LENT + "lent n to q from 1 until 2;lent n to p from 2 until 2", 1, 7);
-        faultyLast(LENT + "lent m to p from 1 until 2;lent n to p from 2 until 002", 3, 7);
+        Reading.faultyLast(LENT + "lent m to q from 1 until 1", 1, 7);
+        Reading.faultyLast(LENT + "lent m to p from 1 until 1;lent m to p from 1 until 2", 1, 7);
+        Reading.faultyLast(LENT + "lent n to q from 1 until 2;lent n to p from 2 until 2", 1, 7);
+        Reading.faultyLast(LENT + "lent m to p from 1 until 2;lent n to p from 2 until 002", 3, 7);
     }
 
     private static void leftmostThenLeast() {
-        faulty("work town;A", 1, 5);
-        faulty("town days 21 A", 4, 10);
-        faulty("mask m plain size 0 size", 4, 18);
-        faultyLast(LENT + "lent m to q from 1 until 3", 1, 4);
-        faultyEnd("town days 1;", 1);
-    }
-
-    private static void sound(String text, int masks) {
-        LentMasks x = new LentMasks();
-        Check.given(x, text, Town.book(x, text), masks);
-        Check.same(text + ": fault", x.fault(), 0);
+        Reading.faulty("work town;A", 1, 5);
+        Reading.faulty("town days 21 A", 4, 10);
+        Reading.faulty("mask m plain size 0 size", 4, 18);
+        Reading.faultyLast(LENT + "lent m to q from 1 until 3", 1, 4);
+        Reading.faultyEnd("town days 1;", 1);
     }
 
     private static void soundOnes() {
-        sound(" town days20;mask m plain size009credit 99;person p size1honour0 ", 1);
-        sound("town days 1;mask plain plain size 1 credit 0;person to size 1 honour 0;lent plain to to from 1 until 1", 1);
-        sound("work abcdefgh;work a , b;person p size 1 honour 1 child habit 4 does b,abcdefgh,a"
+        Reading.sound(" town days20;mask m plain size009credit 99;person p size1honour0 ", 1);
+        Reading.sound("town days 1;mask plain plain size 1 credit 0;person to size 1 honour 0;lent plain to to from 1 until 1", 1);
+        Reading.sound("work abcdefgh;work a , b;person p size 1 honour 1 child habit 4 does b,abcdefgh,a"
                 + ";mask on king size 9 credit 9;town days 1;promise on a on 1 worth 99 fine 0 effort 99", 1);
-        sound(SMALL + "seen m on 2 hour 0 size 9;seen m on 2 hour 23 size 1 habit 4;break p on 2;break p on 1", 1);
-        sound(LENT + "lent n to q from 1 until 1;lent n to p from 2 until 2;letter n to m on 1", 2);
+        Reading.sound(SMALL + "seen m on 2 hour 0 size 9;seen m on 2 hour 23 size 1 habit 4;break p on 2;break p on 1", 1);
+        Reading.sound(LENT + "lent n to q from 1 until 1;lent n to p from 2 until 2;letter n to m on 1", 2);
     }
 }
