@@ -283,7 +283,8 @@ public final class BookTest {
 
     private static void soundOnes() {
         Reading.sound(" town days20;mask m plain size009credit 99;person p size1honour0 ", 1);
-        Reading.sound("town days 1;mask plain plain size 1 credit 0;person to size 1 honour 0;lent plain to to from 1 until 1", 1);
+        Reading.sound("town days 1;mask plain plain size 1 credit 0;person to size 1 honour 0"
+                + ";lent plain to to from 1 until 1", 1);
         Reading.sound("work abcdefgh;work a , b;person p size 1 honour 1 child habit 4 does b,abcdefgh,a"
                 + ";mask on king size 9 credit 9;town days 1;promise on a on 1 worth 99 fine 0 effort 99", 1);
         Reading.sound(SMALL + "seen m on 2 hour 0 size 9;seen m on 2 hour 23 size 1 habit 4;break p on 2;break p on 1", 1);

@@ -335,6 +335,8 @@ public final class EdgesActsTest {
                 int first = acts - kept + i;
                 Edges.done(x, "redo of " + acts, x::redo);
                 Edges.given(x, "redone", () -> x.breaks(first % 3, first / 3 + 1), 1);
+                Check.same("kept again", x.size(8), i + 1);
+                Check.same("to redo still", x.size(9), kept - 1 - i);
             }
             Edges.kept(x, "one more", 6, x::redo);
         }

@@ -17,6 +17,9 @@ public final class EdgesBookTest {
         bookOfMoreBytesThanThereAre();
         tapeIsEmptyThen();
         bookHasNothingToUndoAndNoImages();
+        nothingStaysOfAFormerBook();
+        nothingStaysOfAFaultyBook();
+        plansOfAFormerBookDoNotMatter();
         faultyBookLeavesTheBook();
         faultOfTheLatestBook();
         placeOfTheFault();
@@ -211,6 +214,82 @@ public final class EdgesBookTest {
         Edges.lent(x, "as the text tells", "");
         Edges.given(x, "nobody breaks", () -> x.breaks(0, 1), 0);
         Edges.given(x, "room for images again", x::image, 0);
+    }
+
+    /** The BOOK from now on. */
+    private static void nothingStaysOfAFormerBook() {
+        LentMasks x = new LentMasks();
+        for (int i = 0; i < 3; i++) {
+            Check.given(x, "a full book", Town.book(x, RICH), 2);
+            Check.given(x, "an empty one", Town.book(x, POOR), 1);
+            poorIsRead(x, i + " times");
+        }
+        Town.book(x, RICH);
+        Town.book(x, RICH);
+        Check.given(x, "an empty one behind two", Town.book(x, POOR), 1);
+        poorIsRead(x, "behind two");
+        Check.given(x, "and once more", Town.book(x, POOR), 1);
+        poorIsRead(x, "behind itself");
+        Check.given(x, "and the full one again", Town.book(x, RICH), 2);
+        Check.same("promises", x.size(3), 1);
+        Check.same("lendings", x.size(4), 1);
+        Edges.given(x, "breaks", () -> x.breaks(0, 2), 1);
+    }
+
+    private static void nothingStaysOfAFaultyBook() {
+        LentMasks x = new LentMasks();
+        for (int i = 0; i < 3; i++) {
+            Check.refused(x, "a full book with a fault", Town.book(x, RICH + ";town"), -1, 4);
+            Check.given(x, "an empty one", Town.book(x, POOR), 1);
+            poorIsRead(x, "behind a faulty one");
+        }
+    }
+
+    private static final String RICH = "work a;town days 3;mask m foreign size 9 credit 9;mask n double size 5 credit 8"
+            + ";person p size 5 honour 7 child habit 3 does a;person q size 5 honour 60 child habit 2 does a"
+            + ";promise m a on 2 worth 5 fine 4 effort 3;lent m to p from 2 until 2;seen m on 2 hour 1 size 5"
+            + ";letter m to n on 2;break p on 2;break q on 2";
+    private static final String POOR = "work b;town days 2;mask m plain size 1 credit 3;person p size 2 honour 6"
+            + ";person q size 9 honour 5";
+
+    private static void poorIsRead(LentMasks x, String what) {
+        int[] sizes = {1, 2, 1, 0, 0, 0, 0, 2, 0, 0, 0, 0};
+        for (int i = 0; i < sizes.length; i++) {
+            Check.same(what + ": size(" + i + ")", x.size(i), sizes[i]);
+        }
+        int[][] persons = {{2, 6, 0, 0, 0}, {9, 5, 0, 0, 0}};
+        for (int p = 0; p < 2; p++) {
+            for (int i = 0; i < 5; i++) {
+                int n = p;
+                int w = i;
+                Edges.given(x, what + ": person(" + p + ", " + i + ")", () -> x.person(n, w), persons[p][i]);
+            }
+            int n = p;
+            Edges.given(x, what + ": breaks", () -> x.breaks(n, 2), 0);
+            Edges.given(x, what + ": worn", () -> x.worn(n, 2), -2);
+        }
+        Edges.given(x, what + ": credit", () -> x.credit(0, 2), 3);
+        Edges.given(x, what + ": guild", x::guild, 0);
+        Edges.given(x, what + ": real", () -> x.real(2), 0);
+        Edges.given(x, what + ": terms", x::terms, 0);
+        Edges.given(x, what + ": ask", () -> x.ask(0, 0, 1, 2), 0);
+        Edges.given(x, what + ": untrue", () -> x.untrue(2), 0);
+        Edges.given(x, what + ": may", () -> x.may(2, 0), 0);
+    }
+
+    private static void plansOfAFormerBookDoNotMatter() {
+        String six = "town days 1;work a;person p size 1 honour 0 does a;person q size 1 honour 0 does a";
+        for (char c = 'a'; c <= 'f'; c++) {
+            six += ";mask m" + c + " plain size 1 credit 0;promise m" + c + " a on 1 worth 9 fine 9 effort 0";
+        }
+        LentMasks x = Town.of(six);
+        Edges.given(x, "value of six masks", () -> x.value(1), 18 - 36);
+        String one = "town days 1;work a;person p size 9 honour 0 does a;person q size 1 honour 0"
+                + ";mask m plain size 1 credit 0;promise m a on 1 worth 9 fine 3 effort 0";
+        Town.book(x, one);
+        Edges.given(x, "p doesn't fit any more, q doesn't do it", () -> x.value(1), -3);
+        Edges.given(x, "plan", () -> x.plan(1, 0), -2);
+        Edges.given(x, "needed", () -> x.needed(1, 0), 0);
     }
 
     /** 4 (the BOOK stays). */

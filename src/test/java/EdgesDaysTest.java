@@ -33,6 +33,8 @@ public final class EdgesDaysTest {
         guildOfAll();
         breaksOnADay();
         breaksRefused();
+        twelvePromises();
+        twentyLendings();
         Check.end();
     }
 
@@ -333,7 +335,8 @@ public final class EdgesDaysTest {
 
     /** Then by DAYS, LINES. */
     private static void creditByDaysThenLines() {
-        String town = "town days 2;work a,b;mask m plain size 1 credit 95;person p size 1 honour 0 does a;lent m to p from 1 until 2";
+        String town = "town days 2;work a,b;mask m plain size 1 credit 95;person p size 1 honour 0 does a"
+                + ";lent m to p from 1 until 2";
         String up = ";promise m a on 1 worth 9 fine 0 effort 0";
         String down = ";promise m b on 1 worth 0 fine 9 effort 0";
         LentMasks upDown = Town.of(town + up + down);
@@ -422,6 +425,49 @@ public final class EdgesDaysTest {
         Edges.given(x, "the last day's", x::guild, 115);
         x.give(0, 1);
         Edges.given(x, "all of them", x::guild, 122);
+    }
+
+    /** As many promises as there is room for, in each call that looks at them. */
+    private static void twelvePromises() {
+        LentMasks x = Town.of(ONE + promises("m", "aaaaaaaaaaaa", 1, 2, 3) + ";lent m to p from 1 until 3;break p on 2");
+        Edges.given(x, "owes the last", () -> x.owes(11), 0);
+        Edges.given(x, "done the third", () -> x.done(2), 1);
+        Edges.given(x, "done the last", () -> x.done(11), 0);
+        Edges.given(x, "credit", () -> x.credit(0, 3), 50 + 1 - 3 - 4 + 1 - 3);
+        Edges.given(x, "debt", () -> x.debt(0, 3), 10);
+        Edges.given(x, "gain", () -> x.gain(0, 3), -10);
+        Edges.given(x, "guild", x::guild, 0);
+        Edges.given(x, "real", () -> x.real(3), -2);
+        Edges.given(x, "value", () -> x.value(3), -2);
+        Edges.given(x, "plan", () -> x.plan(3, 0), 0);
+        Edges.given(x, "worth", x::worth, -6);
+        Edges.given(x, "terms", x::terms, 1);
+        Edges.given(x, "ask", () -> x.ask(0, 0, 1, 3), 12);
+    }
+
+    /** As many lendings as there is room for, in each call that looks at them. */
+    private static void twentyLendings() {
+        LentMasks x = Town.of("town days 20;work a;mask m plain size 1 credit 50;mask n plain size 1 credit 0"
+                + ";person p size 1 honour 0 does a;person q size 1 honour 0;promise m a on 20 worth 9 fine 5 effort 1");
+        for (int day = 1; day <= 20; day++) {
+            int d = day;
+            Edges.done(x, "lend on " + day, () -> x.lend(0, 0, d, d));
+        }
+        Edges.given(x, "wearer", () -> x.wearer(0, 20), 0);
+        Edges.given(x, "wearer of the other", () -> x.wearer(1, 20), -2);
+        Edges.given(x, "worn", () -> x.worn(0, 20), 0);
+        Edges.given(x, "worn by the other", () -> x.worn(1, 20), -2);
+        Edges.given(x, "credit", () -> x.credit(0, 20), 59);
+        Edges.given(x, "terms", x::terms, 1);
+        Edges.given(x, "wearers", () -> x.wearers(20), 1);
+        Check.same("led", x.led(20, 0), 1);
+        Edges.done(x, "the last is given back", () -> x.give(0, 20));
+        Edges.given(x, "wearer", () -> x.wearer(0, 20), -2);
+        Edges.given(x, "worn", () -> x.worn(0, 20), -2);
+        Edges.done(x, "and lent once more", () -> x.lend(0, 0, 20, 20));
+        Edges.done(x, "given back again", () -> x.give(0, 20));
+        Edges.done(x, "and lent to the other", () -> x.lend(0, 1, 20, 20));
+        Edges.given(x, "worn by the other", () -> x.worn(1, 20), 0);
     }
 
     /** Promise 15: Whether a person breaks on a DAY: 1, 0. */

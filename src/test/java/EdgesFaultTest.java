@@ -11,6 +11,7 @@ public final class EdgesFaultTest {
         leastNumberOfOnePlace();
         firstByteThatBeginsNoToken();
         tokenWithWhichNoBookGoesOn();
+        wordByItsLetters();
         theEnd();
         nameNotTold();
         nameOfAnotherSort();
@@ -118,6 +119,31 @@ public final class EdgesFaultTest {
         }
         Reading.marked("^days 5", 1);
         Reading.marked("^give m on 1", 1);
+    }
+
+    /** A word that isn't a name is another one, if a letter of it is another one, is missing or is one more. */
+    private static void wordByItsLetters() {
+        String[] lines = {"town days 5", "work a", "mask o plain size 5 credit 0", "mask o child size", "mask o foreign size",
+            "mask o double size", "mask o king size", "person r size 5 honour 0", "person r size 5 honour 0 child",
+            "person r size 5 honour 0 habit 1", "person r size 5 honour 0 does a",
+            "promise m a on 1 worth 0 fine 0 effort 0", "lent m to p from 1 until 1", "seen m on 1 hour 0 size 1 habit 1",
+            "letter m to n on 1", "break p on 1"};
+        for (String line : lines) {
+            StringBuilder ahead = new StringBuilder(line.startsWith("town") ? "" : TOWN + ";");
+            for (String word : line.split(" ")) {
+                if (word.length() > 1) {
+                    for (int i = 0; i < word.length(); i++) {
+                        String other = word.substring(0, i) + 'x' + word.substring(i + 1);
+                        Reading.marked(ahead + "^" + other, 1);
+                    }
+                    Reading.marked(ahead + "^" + word.substring(1), 1);
+                    Reading.marked(ahead + "^" + word.substring(0, word.length() - 1), 1);
+                    Reading.marked(ahead + "^" + word + "x", 1);
+                    Reading.marked(ahead + "^x" + word, 1);
+                }
+                ahead.append(word).append(' ');
+            }
+        }
     }
 
     /** The end: its place. */

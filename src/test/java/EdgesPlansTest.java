@@ -241,7 +241,8 @@ public final class EdgesPlansTest {
         Check.same("effort 98, fine 98", terms(effort("m a", 1, 98, 98) + lent), 98);
         Check.same("effort 98, fine 99", terms(effort("m a", 1, 99, 98) + lent), 98);
         Check.same("effort 99, fine 99", terms(effort("m a", 1, 99, 99) + lent), 99);
-        Check.same("the most of all", terms(effort("m a", 1, 50, 7) + effort("m a", 1, 50, 9) + effort("m a", 1, 50, 8) + lent), 9);
+        String three = effort("m a", 1, 50, 7) + effort("m a", 1, 50, 9) + effort("m a", 1, 50, 8);
+        Check.same("the most of all", terms(three + lent), 9);
     }
 
     /** Promise 21: -2 if 99 don't do. */

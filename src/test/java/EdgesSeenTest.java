@@ -5,7 +5,7 @@ import java.util.function.Consumer;
 public final class EdgesSeenTest {
     private static final String FULL = "town days 20;work a,b,c,d,e;mask ma plain size 1 credit 0;mask mb child size 9 credit 0"
             + ";mask mc foreign size 5 credit 0;mask md double size 9 credit 99;mask me king size 1 credit 0"
-            + ";mask mf plain size 9 credit 0;person pa size 1 honour 0;person pb size 9 honour 99 child habit 4 does a,b,c,d,e"
+            + ";mask mf plain size 9 credit 0;person pa size 1 honour 1;person pb size 9 honour 99 child habit 4 does a,b,c,d,e"
             + ";person pc size 1 honour 60 habit 1;person pd size 1 honour 0 child does a;person pe size 1 honour 0 does e"
             + ";person pf size 9 honour 0 habit 4 does d,b;lent mf to pf from 1 until 20;lent ma to pa from 20 until 20";
 
@@ -89,7 +89,7 @@ public final class EdgesSeenTest {
     /** Promise 40: Of a person 0 its size, 1 honour, 2 whether it is a child, 3 its habit (0 without), 4 works, as bits. */
     private static void personOfEach() {
         LentMasks x = Town.of(FULL);
-        int[][] due = {{1, 0, 0, 0, 0}, {9, 99, 1, 4, 31}, {1, 60, 0, 1, 0}, {1, 0, 1, 0, 1}, {1, 0, 0, 0, 16}, {9, 0, 0, 4, 10}};
+        int[][] due = {{1, 1, 0, 0, 0}, {9, 99, 1, 4, 31}, {1, 60, 0, 1, 0}, {1, 0, 1, 0, 1}, {1, 0, 0, 0, 16}, {9, 0, 0, 4, 10}};
         for (int p = 0; p < 6; p++) {
             for (int what = 0; what <= 4; what++) {
                 int n = p;

@@ -41,6 +41,7 @@ public final class EdgesTextTest {
         wordsThatAreNoNames();
         allOtherWordsAreNames();
         namesAreToldAheadOfTheirUse();
+        oneNameMoreThanAllRooms();
         Check.end();
     }
 
@@ -354,6 +355,15 @@ public final class EdgesTextTest {
         }
         // As long as a word that is none, or longer by its last letter.
         Reading.sound("work tower,sizes,chill,towns,siz;" + LEAST, 1);
+    }
+
+    private static void oneNameMoreThanAllRooms() {
+        String all = "work a,b,c,d,e;" + lines(6, "mask # plain size 1 credit 0") + ";" + lines(6, "person p# size 1 honour 0");
+        Reading.sound(all + ";town days 1", 6);
+        Reading.marked(all + ";work ^f", 5);
+        Reading.marked(all + ";work ^pw", 3);
+        Reading.marked(all + ";^mask f", 5);
+        Reading.marked(all + ";^person f", 5);
     }
 
     /** Each told once, ahead of its use. */

@@ -7,6 +7,7 @@ public final class EdgesWornTest {
             + ";person r size 5 honour 0 habit 4";
 
     public static void main(String[] args) {
+        personWhomItFits();
         asLentWhereItIsLent();
         wornWhereItIsSeen();
         elseOnItsPeg();
@@ -21,6 +22,7 @@ public final class EdgesWornTest {
         mayRefused();
         nothingFalse();
         fewestSightings();
+        wearersWithoutTheFalseOnes();
         seenTwiceInOneHour();
         doubleSeenTwice();
         leastBits();
@@ -52,7 +54,23 @@ public final class EdgesWornTest {
         }
     }
 
-    /** WEARERS: as lent, where it is lent. */
+    /** WEARERS: for each mask a person whom it FITS or its peg. */
+    private static void personWhomItFits() {
+        // By the sighting it could be any of them.
+        String persons = ";person p size 7 honour 99 child;person q size 6 honour 59;person r size 5 honour 60"
+                + ";person s size 5 honour 0 child";
+        String[] kinds = {"plain", "child", "foreign", "double", "king"};
+        int[] may = {2 + 4 + 8, 8, 15, 4 + 8, 4};
+        for (int i = 0; i < kinds.length; i++) {
+            LentMasks x = Town.of("town days 1;mask m " + kinds[i] + " size 5 credit 0" + persons + seen("m", 1, 0, "6"));
+            wearersAre(x, kinds[i], 1, Integer.bitCount(may[i]), may[i]);
+        }
+        LentMasks none = Town.of("town days 1;mask m plain size 5 credit 0;person p size 7 honour 0" + seen("m", 1, 0, "6"));
+        wearersAre(none, "it fits nobody", 1, 1, 0);
+        Edges.given(none, "so it is false", () -> none.untrue(1), 1);
+    }
+
+    /** As lent, where it is lent. */
     private static void asLentWhereItIsLent() {
         LentMasks x = Town.of(MASKS + PERSONS + ";lent n to r from 2 until 2");
         wearersAre(x, "the day ahead", 1, 1, 0, 0, 0);
@@ -81,6 +99,14 @@ public final class EdgesWornTest {
         }
         LentMasks lie = Town.of(MASKS + PERSONS + seen("m", 1, 0, "9"));
         wearersAre(lie, "seen falsely alone", 1, 1, 0, 0, 0);
+        String[] masks = {"m", "n", "d"};
+        int[][] may = {{7, 0, 0}, {0, 7, 0}, {0, 0, 5}};
+        for (int i = 0; i < 3; i++) {
+            LentMasks one = Town.of(MASKS + PERSONS + seen(masks[i], 1, 0, i < 2 ? "6" : "4"));
+            wearersAre(one, "only " + masks[i] + " is seen", 1, i < 2 ? 3 : 2, may[i]);
+        }
+        LentMasks ends = Town.of(MASKS + PERSONS + seen("m", 1, 0, "6") + seen("d", 1, 0, "4"));
+        wearersAre(ends, "the first and the last", 1, 4, 7, 0, 5);
     }
 
     private static void nobodyWithTwo() {
@@ -233,12 +259,24 @@ public final class EdgesWornTest {
     private static void fewestSightings() {
         untrueIs("one of one", seen("m", 1, 0, "9"), 1);
         untrueIs("one of two, the second", seen("m", 1, 0, "5") + seen("m", 1, 1, "9"), 2);
-        untrueIs("one against two, though its bit is more", seen("m", 1, 0, "7") + seen("m", 1, 1, "7") + seen("m", 1, 2, "4"), 4);
+        untrueIs("one against two, though its bit is more", seen("m", 1, 0, "7") + seen("m", 1, 1, "7")
+                + seen("m", 1, 2, "4"), 4);
         untrueIs("two against three", seen("m", 1, 0, "4") + seen("m", 1, 1, "7") + seen("m", 1, 2, "7") + seen("m", 1, 3, "4")
                 + seen("m", 1, 4, "7"), 1 + 8);
         untrueIs("as lent, all three", seen("m", 1, 0, "7") + seen("m", 1, 1, "7") + seen("m", 1, 2, "7") + seen("m", 1, 3, "4")
                 + ";lent m to p from 1 until 1", 7);
         untrueIs("only q can be in both", seen("m", 1, 0, "7") + seen("n", 1, 1, "7") + seen("n", 1, 2, "7"), 1);
+    }
+
+    private static void wearersWithoutTheFalseOnes() {
+        LentMasks two = Town.of(MASKS + PERSONS + seen("m", 1, 0, "7") + seen("m", 1, 1, "7") + seen("m", 1, 2, "4")
+                + seen("m", 1, 3, "4") + seen("m", 1, 4, "4"));
+        Edges.given(two, "two against three", () -> two.untrue(1), 3);
+        wearersAre(two, "the three are true", 1, 2, 5, 0, 0);
+        Edges.given(two, "odds", () -> two.odds(1, 0, 2, true), 2);
+        LentMasks three = Town.of(MASKS + PERSONS + seen("m", 1, 0, "4") + seen("m", 1, 1, "7") + seen("m", 1, 2, "7"));
+        Edges.given(three, "one against two", () -> three.untrue(1), 1);
+        wearersAre(three, "the two are true", 1, 1, 2, 0, 0);
     }
 
     /** And no mask but a double one was seen twice in one hour. */
@@ -263,7 +301,8 @@ public final class EdgesWornTest {
     private static void doubleSeenTwice() {
         untrueIs("twice", seen("d", 1, 5, "5").repeat(2), 0);
         untrueIs("eight times", seen("d", 1, 5, "5").repeat(8), 0);
-        untrueIs("by one head all the same", seen("d", 1, 5, "4 habit 4") + seen("d", 1, 5, "6") + seen("d", 1, 5, "5 habit 1"), 4);
+        untrueIs("by one head all the same", seen("d", 1, 5, "4 habit 4") + seen("d", 1, 5, "6")
+                + seen("d", 1, 5, "5 habit 1"), 4);
     }
 
     /** Of like ones the least bits. */
@@ -271,7 +310,8 @@ public final class EdgesWornTest {
         untrueIs("one of two", seen("m", 1, 0, "7") + seen("m", 1, 1, "4"), 1);
         untrueIs("one of two, turned", seen("m", 1, 0, "4") + seen("m", 1, 1, "7"), 1);
         untrueIs("two of four", seen("m", 1, 0, "7") + seen("m", 1, 1, "4") + seen("m", 1, 2, "4") + seen("m", 1, 3, "7"), 6);
-        untrueIs("two of four, turned", seen("m", 1, 0, "4") + seen("m", 1, 1, "4") + seen("m", 1, 2, "7") + seen("m", 1, 3, "7"), 3);
+        untrueIs("two of four, turned", seen("m", 1, 0, "4") + seen("m", 1, 1, "4") + seen("m", 1, 2, "7")
+                + seen("m", 1, 3, "7"), 3);
         untrueIs("the least, not the first", seen("m", 2, 0, "9") + seen("m", 1, 0, "4") + seen("m", 1, 1, "7"), 2);
     }
 
@@ -373,6 +413,10 @@ public final class EdgesWornTest {
         loversAre(x, "a letter to another", 0, 1);
         loversAre(x, "a letter", 0, 2, pair(0, 2));
         loversAre(x, "none between these", 1, 2);
+        for (String letter : new String[] {"m to o", "o to m", "n to o", "o to n"}) {
+            loversAre(Town.of(lent + ";letter " + letter + " on 1"), "only " + letter, 0, 1);
+            loversAre(Town.of(lent + ";letter " + letter + " on 1"), "only " + letter + ", turned", 1, 0);
+        }
     }
 
     /** Either way. */
@@ -391,7 +435,8 @@ public final class EdgesWornTest {
         loversAre(Town.of(lent + ";letter m to n on 1;letter n to m on 2"), "the same on both days", 0, 1, pair(0, 1));
         loversAre(Town.of(lent + ";letter m to n on 1;letter m to n on 3"), "another one on the last", 0, 1);
         loversAre(Town.of(lent + ";letter m to n on 3"), "the last alone", 0, 1, pair(2, 1));
-        loversAre(Town.of(lent + ";letter m to n on 1;letter m to o on 3"), "a letter to another doesn't matter", 0, 1, pair(0, 1));
+        loversAre(Town.of(lent + ";letter m to n on 1;letter m to o on 3"), "a letter to another doesn't matter", 0, 1,
+                pair(0, 1));
         loversAre(Town.of(PAIR + ";lent m to p from 1 until 1;letter m to n on 1"), "one is on its peg", 0, 1);
         loversAre(Town.of(PAIR + ";lent n to p from 1 until 1;letter m to n on 1"), "the other one is", 0, 1);
         // Eight letters on as many days, and on one of them another one has it.
@@ -408,7 +453,8 @@ public final class EdgesWornTest {
 
     private static void loversTogetherInOneWearers() {
         // p or q in m, q or r in n: q and r, p and q, p and r, but not q and q.
-        LentMasks x = Town.of(PAIR.replace("size 7", "size 8") + seen("m", 1, 0, "5") + seen("n", 1, 1, "7") + ";letter m to n on 1");
+        LentMasks x = Town.of(PAIR.replace("size 7", "size 8") + seen("m", 1, 0, "5") + seen("n", 1, 1, "7")
+                + ";letter m to n on 1");
         loversAre(x, "not q and q", 0, 1, pair(0, 1), pair(0, 2), pair(1, 2));
         // A third mask that only q can wear leaves p and r.
         LentMasks y = Town.of(PAIR.replace("size 7", "size 8").replace("size 6 honour 0", "size 6 honour 0 habit 1")
