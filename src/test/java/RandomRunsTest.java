@@ -12,6 +12,7 @@ public final class RandomRunsTest {
     private static final int RUNS = 400;
     private static final int CALLS = 160;
     private static final int FAULTY_TEXTS = 40_000;
+    private static final int DRESSED_TEXTS = 10_000;
     private static final int WILD = 40;
 
     private static final List<Method> METHODS = methods();
@@ -21,6 +22,7 @@ public final class RandomRunsTest {
             drive(new Random(1000 + run), run);
         }
         faultyTexts(new Random(77));
+        dressedTexts(new Random(78));
         Check.end();
     }
 
@@ -132,5 +134,18 @@ public final class RandomRunsTest {
         for (int fault = 0; fault < met.length; fault++) {
             Check.yes("fault " + fault + " was met", met[fault] > 0);
         }
+    }
+
+    private static void dressedTexts(Random random) {
+        LentMasks x = new LentMasks();
+        Model model = new Model();
+        int sound = 0;
+        for (int i = 0; i < DRESSED_TEXTS; i++) {
+            String text = Texts.dressed(Texts.sound(random), random);
+            tell(x, model, random.nextInt(3) == 0 ? Texts.spoilt(text, random) : text, new StringBuilder());
+            sound += x.fault() == 0 ? 1 : 0;
+        }
+        System.out.println("dressed texts that are sound: " + sound + " of " + DRESSED_TEXTS);
+        Check.yes("most dressed texts are sound", sound > DRESSED_TEXTS / 2);
     }
 }

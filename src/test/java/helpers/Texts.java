@@ -1,11 +1,21 @@
 import java.util.ArrayList;
 import java.util.Arrays;
+import java.util.Collections;
+import java.util.HashMap;
 import java.util.List;
+import java.util.Map;
 import java.util.Random;
+import java.util.regex.Matcher;
+import java.util.regex.Pattern;
 
 /** Texts of books by chance, sound or spoilt. */
 final class Texts {
     private static final String[] KINDS = {"plain", "child", "foreign", "double", "king", "foreign", "plain"};
+
+    // Words of lines that may be names all the same, and some that are nearly words of lines.
+    private static final List<String> ODD_NAMES = List.of("on", "to", "from", "until", "days", "plain", "king", "double",
+            "foreign", "credit", "honour", "worth", "fine", "effort", "hour", "towns", "siz", "abcdefgh", "abcdefgi", "z");
+    private static final Pattern TOKEN = Pattern.compile("[a-z]+|[0-9]+|[^ ]");
 
     private Texts() {
     }
@@ -96,6 +106,34 @@ final class Texts {
         return String.join(";", told);
     }
 
+    /** The same town by other names, with noughts ahead of wholes, and blanks only here and there. */
+    static String dressed(String text, Random r) {
+        List<String> names = new ArrayList<>(ODD_NAMES);
+        Collections.shuffle(names, r);
+        Map<String, String> chosen = new HashMap<>();
+        StringBuilder s = new StringBuilder();
+        Matcher m = TOKEN.matcher(text);
+        while (m.find()) {
+            String token = m.group();
+            if (token.matches("[mp][a-f]|[a-e]")) {
+                if (!chosen.containsKey(token)) {
+                    chosen.put(token, names.remove(0));
+                }
+                token = chosen.get(token);
+            } else if (token.matches("[0-9]{1,2}") && r.nextInt(4) == 0) {
+                token = "0" + token;
+            }
+            s.append(" ".repeat(r.nextInt(4) == 0 ? r.nextInt(3) : 0));
+            s.append(s.length() > 0 && runTogether(s.charAt(s.length() - 1), token.charAt(0)) ? " " : "").append(token);
+        }
+        s.append(" ".repeat(r.nextInt(3)));
+        return s.length() > 900 ? s.substring(0, 900) : s.toString();
+    }
+
+    private static boolean runTogether(char a, char b) {
+        return Character.isLetter(a) && Character.isLetter(b) || Character.isDigit(a) && Character.isDigit(b);
+    }
+
     static String spoilt(String text, Random r) {
         String s = text;
         int times = 1 + r.nextInt(3);
@@ -125,7 +163,7 @@ final class Texts {
                 lines.add(r.nextInt(lines.size() + 1), lines.get(line));
                 return String.join(";", lines);
             case 6:
-                java.util.Collections.swap(lines, line, r.nextInt(lines.size()));
+                Collections.swap(lines, line, r.nextInt(lines.size()));
                 return String.join(";", lines);
             case 7:
                 String[] words = s.split("(?<=[ ;,])|(?=[ ;,])");
